@@ -51,8 +51,6 @@ public final class RainWalk {
     private final byte[] tape = new byte[TAPE_ROOM];
     private int taped;
     private World told = new World();
-    /** A text is read into this one, so that a fault leaves the world as it was. */
-    private World spare = new World();
     private final Reader reader = new Reader();
     private final Leg leg = new Leg();
     private final Ways ways = new Ways();
@@ -91,16 +89,14 @@ public final class RainWalk {
         if (n < 0 || n > taped) {
             return refuse(BAD_NUMBER);
         }
-        boolean sound = reader.read(tape, n, spare);
+        boolean sound = reader.read(tape, n);
         taped = 0;
         faultNumber = reader.fault;
         faultPlace = reader.faultAt;
         if (!sound) {
             return refuse(FAULTY);
         }
-        World former = told;
-        told = spare;
-        spare = former;
+        told = reader.exchange(told);
         ways.forget();
         today.end();
         return grant(told.walkers);
@@ -787,6 +783,7 @@ public final class RainWalk {
         private byte[] text = new byte[0];
         private int length;
         private int at;
+        /** Not the one that is told, so that a fault leaves that as it was. */
         private World world = new World();
         private int sort;
         private int start;
@@ -799,8 +796,15 @@ public final class RainWalk {
         /** Places stand as their numbers, walkers behind PLACE_ROOM. */
         private final int[] named = new int[NAME_ROOM];
 
-        boolean read(byte[] bytes, int n, World into) {
-            open(bytes, n, into);
+        /** Hands out the world that was read, and reads the next into the former one. */
+        World exchange(World former) {
+            World done = world;
+            world = former;
+            return done;
+        }
+
+        boolean read(byte[] bytes, int n) {
+            open(bytes, n);
             for (int lines = 0; lines <= TAPE_ROOM; lines++) {
                 boolean fine;
                 if (is("world")) {
@@ -828,14 +832,13 @@ public final class RainWalk {
             return fail(FORM);
         }
 
-        private void open(byte[] bytes, int n, World into) {
+        private void open(byte[] bytes, int n) {
             text = bytes;
             length = Math.min(n, bytes.length);
             at = 0;
             fault = 0;
             faultAt = 0;
             names = 0;
-            world = into;
             world.clear();
             next();
         }
@@ -893,11 +896,14 @@ public final class RainWalk {
         }
 
         private boolean is(String word) {
+            if (sort != WORD) {
+                return false;
+            }
             long code = 0;
             for (int i = 0; i < word.length(); i++) {
                 code = code * 32 + (word.charAt(i) & 31);
             }
-            return sort == WORD && token == code;
+            return token == code;
         }
 
         // ---- parts of lines
@@ -1308,17 +1314,21 @@ public final class RainWalk {
     /** The least ways of one walker to one place by one minute, from every place and minute. */
     private static final class Ways {
         private static final int MINUTES = LAST_TILL + 1;
-        private static final int SPEEDS = FASTEST + 1;
+        private static final int MOVE_ROOM = ROAD_ROOM * 2 * FASTEST + PLACE_ROOM;
         private static final int WAIT = -2;
         private static final long CLOSED = Long.MAX_VALUE;
         /** Above every minute: a key is the mean times this and the minute of being there, so keys compare as ways do. */
         private static final int KEY_MINUTES = 512;
 
-        final int[] route = new int[MINUTES];
+        int[] route = new int[0];
         private long[] key = new long[0];
         private int[] choice = new int[0];
-        private final long[] legCost = new long[ROAD_ROOM * 2 * SPEEDS];
-        private final long[] waitCost = new long[PLACE_ROOM];
+        private int moves;
+        private int[] moveFrom = new int[0];
+        private int[] moveTo = new int[0];
+        private int[] moveMinutes = new int[0];
+        private long[] moveCost = new long[0];
+        private int[] moveCode = new int[0];
         private int pricedHour = NONE;
         private int walker = NONE;
         private int goal = NONE;
@@ -1330,11 +1340,22 @@ public final class RainWalk {
             walker = NONE;
         }
 
+        /** Not in the constructor, since many objects are never asked for a way. */
+        private void makeRows() {
+            route = new int[MINUTES];
+            key = new long[PLACE_ROOM * MINUTES];
+            choice = new int[PLACE_ROOM * MINUTES];
+            moveFrom = new int[MOVE_ROOM];
+            moveTo = new int[MOVE_ROOM];
+            moveMinutes = new int[MOVE_ROOM];
+            moveCost = new long[MOVE_ROOM];
+            moveCode = new int[MOVE_ROOM];
+        }
+
         /** Later minutes come first, and those that an earlier call reckoned are kept. */
         void reckon(World world, Leg leg, int forWalker, int to, int by, int from) {
             if (key.length == 0) {
-                key = new long[PLACE_ROOM * MINUTES];
-                choice = new int[PLACE_ROOM * MINUTES];
+                makeRows();
             }
             if (forWalker != walker || to != goal || by != till) {
                 walker = forWalker;
@@ -1343,74 +1364,84 @@ public final class RainWalk {
                 reckoned = by + 1;
                 pricedHour = NONE;
             }
-            if (!world.hasWalker(walker)) {
-                return;
-            }
             for (int minute = reckoned - 1; minute >= from && minute >= 0; minute--) {
-                price(world, leg, Math.min(world.hourOf(minute), world.hours));
-                reckonMinute(world, minute);
+                int hour = Math.min(world.hourOf(minute), world.hours);
+                if (hour != pricedHour) {
+                    price(world, leg, hour);
+                }
+                reckonMinute(world.places, minute);
                 reckoned = minute;
             }
         }
 
-        /** What each step costs in an hour; the one behind the last that is told is dry. */
+        /** Finds the moves of an hour, in the order in which those alike are taken; behind the last hour told it is dry. */
         private void price(World world, Leg leg, int hour) {
-            if (hour == pricedHour) {
+            pricedHour = hour;
+            moves = 0;
+            if (!world.hasWalker(walker)) {
                 return;
             }
-            pricedHour = hour;
             Walker who = world.walker[walker];
             boolean dry = !world.hasHour(hour);
-            for (int place = 0; place < world.places; place++) {
-                waitCost[place] = dry ? 0 : (long) world.dripOn(who, place) * PARTS * world.rain[hour].chance;
-            }
             for (int trip = 0; trip < 2 * world.roads; trip++) {
+                Road road = world.road[trip / 2];
+                int way = trip % 2;
                 for (int speed = who.slowest; speed <= who.fastest; speed++) {
-                    legCost[trip * SPEEDS + speed] = dry ? 0
-                        : leg.wetOf(who, world.road[trip / 2], trip % 2, world.rain[hour], speed) * world.rain[hour].chance;
+                    long cost = dry ? 0 : leg.wetOf(who, road, way, world.rain[hour], speed) * world.rain[hour].chance;
+                    addLeg(road, way, speed, cost, 100 * (trip / 2) + 10 * way + speed);
+                }
+            }
+            for (int place = 0; place < world.places; place++) {
+                if (world.canWait(place)) {
+                    long cost = dry ? 0 : (long) world.dripOn(who, place) * PARTS * world.rain[hour].chance;
+                    addMove(place, place, 1, cost, WAIT);
                 }
             }
         }
 
-        /** Offers come in the order in which steps that are alike are taken: only a better one replaces another. */
-        private void reckonMinute(World world, int minute) {
-            for (int place = 0; place < world.places; place++) {
-                key[place * MINUTES + minute] = place == goal ? minute : CLOSED;
-                choice[place * MINUTES + minute] = NONE;
-            }
-            for (int trip = 0; trip < 2 * world.roads; trip++) {
-                offerLegs(world.walker[walker], world.road[trip / 2], trip, minute);
-            }
-            for (int place = 0; place < world.places; place++) {
-                if (minute < till && world.canWait(place)) {
-                    int here = place * MINUTES + minute;
-                    offer(here, here + 1, waitCost[place], WAIT);
+        /** Of speeds that take as long only the best is a move, since they lead to the same. */
+        private void addLeg(Road road, int way, int speed, long cost, int code) {
+            int minutes = road.minutesAt(speed);
+            int last = moves - 1;
+            if (last >= 0 && last < MOVE_ROOM && moveCode[last] / 10 == code / 10 && moveMinutes[last] == minutes) {
+                if (moveCost[last] <= cost * KEY_MINUTES) {
+                    return;
                 }
+                moves = last;
             }
-        }
-
-        private void offerLegs(Walker who, Road road, int trip, int minute) {
-            int way = trip % 2;
-            int here = road.startOf(way) * MINUTES + minute;
-            int there = road.endOf(way) * MINUTES;
-            for (int speed = who.slowest; speed <= who.fastest; speed++) {
-                int end = minute + road.minutesAt(speed);
-                if (end <= till) {
-                    int code = 100 * (trip / 2) + 10 * way + speed;
-                    offer(here, there + end, legCost[trip * SPEEDS + speed], code);
-                }
-            }
+            addMove(road.startOf(way), road.endOf(way), minutes, cost, code);
         }
 
         /** At the goal no step is better than none, since each takes time. */
-        private void offer(int here, int next, long cost, int code) {
-            if (here < 0 || here >= key.length || next < 0 || next >= key.length || key[next] == CLOSED) {
+        private void addMove(int from, int to, int minutes, long cost, int code) {
+            if (from == goal || moves < 0 || moves >= MOVE_ROOM) {
                 return;
             }
-            long all = cost * KEY_MINUTES + key[next];
-            if (all < key[here]) {
-                key[here] = all;
-                choice[here] = code;
+            moveFrom[moves] = from * MINUTES;
+            moveTo[moves] = to * MINUTES + minutes;
+            moveMinutes[moves] = minutes;
+            moveCost[moves] = cost * KEY_MINUTES;
+            moveCode[moves] = code;
+            moves++;
+        }
+
+        /** Moves that are alike stand in the order in which they are taken: only a better one replaces another. */
+        private void reckonMinute(int places, int minute) {
+            for (int place = 0; place < places && place < PLACE_ROOM; place++) {
+                key[place * MINUTES + minute] = place == goal ? minute : CLOSED;
+                choice[place * MINUTES + minute] = NONE;
+            }
+            for (int move = 0; move < moves && move < MOVE_ROOM; move++) {
+                int here = moveFrom[move] + minute;
+                int next = moveTo[move] + minute;
+                boolean inTime = moveMinutes[move] <= till - minute;
+                if (inTime && here >= 0 && here < key.length && next >= 0 && next < key.length && key[next] != CLOSED) {
+                    long all = moveCost[move] + key[next];
+                    if (all < key[here]) {
+                        key[here] = all;
+                        choice[here] = moveCode[move];
+                    }
+                }
             }
         }
 
