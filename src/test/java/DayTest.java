@@ -17,6 +17,7 @@ public final class DayTest {
         noDay();
         legs();
         stays();
+        firstHour();
         coats();
         lateMinutes();
         undoing();
@@ -123,6 +124,23 @@ public final class DayTest {
         Check.granted("a day where nobody waits", x, x.day(0, 2, 10, 0), 6);
         Check.refused("stay", x, x.stay(1), 5);
         Check.refused("stay of a wrong number", x, x.stay(-1), 2);
+    }
+
+    private static void firstHour() {
+        RainWalk x = Check.of("world hour 5;rain drops 1 down 1 wind north 0 chance 100;place a tree 3;place b;road a east 4 b;"
+            + "walker p plain broad 1 deep 1 high 1 from 1 to 4");
+        Check.granted("day", x, x.day(0, 0, 0, 5), 1);
+        Check.due("stay", x.stay(7), true);
+        x.size(99);
+        x.go(9, 9, 9);
+        Check.granted("five minutes of the first hour drip", x, x.got(0, false), 15);
+        x.go(9, 9, 9);
+        Check.granted("wetness", x, x.wetness(false), 15);
+        Check.granted("day", x, x.day(0, 0, 4, 5), 1);
+        Check.granted("a leg that begins in the first hour", x, x.go(0, 0, 1), 8);
+        Check.due("all of it is wet", x.wetness(false), 8);
+        Check.granted("a leg behind it", x, x.go(0, 1, 1), 12);
+        Check.due("it is dry", x.wetness(false), 8);
     }
 
     private static void coats() {

@@ -185,6 +185,8 @@ public final class LegsTest {
         lee(0, 3, 0, 0, 2, 352, 1);
         lee(3, 0, 0, 0, 2, 352, 1);
         Check.granted("first, from behind", x, x.first(0, 3, 0, 0, 0, 3), -2);
+        wet(0, 2, 0, 0, 1, 0, 1);
+        Check.granted("first, behind another leg", x, x.first(1, 0, 0, 1, 0, 3), 0);
         Check.refused("lee, one walker", x, x.lee(1, 1, 0, 0, 0, 3, true), -1, 1);
         Check.refused("lee, no such walker", x, x.lee(1, 4, 0, 0, 0, 3, true), -1, 1);
         Check.refused("lee, no such walker ahead", x, x.lee(-1, 0, 0, 0, 0, 3, true), -1, 1);

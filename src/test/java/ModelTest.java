@@ -340,7 +340,7 @@ public final class ModelTest {
             int w = from(0, walker.length - 1);
             int a = from(0, drip.length - 1);
             int b = from(0, drip.length - 1);
-            int till = large ? from(0, 60) : from(0, 30);
+            int till = large ? from(0, i == 0 ? 400 : 60) : from(0, 30);
             int start = from(0, till);
             String of = "(" + w + "," + a + "," + b + "," + start + "," + till + ") in " + text;
             Path path = best(w, a, b, start, till, till - start <= 4 ? null : new HashMap<>());

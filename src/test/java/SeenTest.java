@@ -24,6 +24,7 @@ public final class SeenTest {
         Check.refused("fit(0, MAX)", x, x.fit(0, Integer.MAX_VALUE), -1, 1);
         Check.refused("fit(0, MIN)", x, x.fit(0, Integer.MIN_VALUE), -1, 1);
         nothingToFit();
+        firstLeg();
         Check.end("SeenTest");
     }
 
@@ -34,6 +35,14 @@ public final class SeenTest {
         }
         Check.refused("fit behind the last of " + seen, x, x.fit(seen, codes.length), -1, 1);
         Check.refused("fit(" + seen + ", -1)", x, x.fit(seen, -1), -1, 1);
+    }
+
+    private static void firstLeg() {
+        RainWalk x = Check.of("world hour 5;rain drops 1 down 1 wind north 0 chance 0;place a;place b;road a east 1 b;"
+            + "walker p plain broad 1 deep 1 high 1 from 1 to 9;seen p 1,1,0,0,0;seen p 0,1,0,0,0");
+        codes(x, 0, 1, 101);
+        codes(x, 1);
+        Check.granted("lies()", x, x.lies(), 2);
     }
 
     private static void nothingToFit() {

@@ -9,6 +9,7 @@ public final class TextTest {
         tape();
         worlds();
         refusedWorlds();
+        worldsAgain();
         tokens();
         form();
         names();
@@ -63,6 +64,7 @@ public final class TextTest {
         Check.sound(SMALL + ";walker y bent 8 broad 9 deep 9 high 9 from 1 to 9;walker x shield 99 broad 1 deep 1 high 1 from 2 to 2", 3);
         Check.sound(SMALL + ";rain drops 0 down 1 wind north 0 chance 0;rain drops 9 down 9 wind west 9 chance 100", 1);
         Check.sound(W + "place abcdefgh;" + WALKER, 1);
+        Check.sound(W + "place a;walker y bent 1 broad 1 deep 9 high 2 from 1 to 9;walker x shield 1 broad 1 deep 1 high 1 from 2 to 2", 2);
         RainWalk x = new RainWalk();
         Check.feed(x, SMALL + "!");
         Check.granted("world of the first bytes alone", x, x.world(SMALL.length()), 1);
@@ -98,6 +100,31 @@ public final class TextTest {
         Check.due("no day: size(8)", x.size(8), 0);
         Check.due("no day: size(10)", x.size(10), 0);
         Check.refused("back(0) without a day", x, x.back(0), 1);
+    }
+
+    /** Nothing of an earlier world is left in a later one. */
+    private static void worldsAgain() {
+        String great = "world hour 9;rain drops 1 down 1 wind east 1 chance 1;place a;place b;road a east 5 b awning 5;"
+            + "walker z coat 5 broad 1 deep 1 high 1 from 1 to 1;walker y bent 5 broad 1 deep 1 high 6 from 1 to 1;seen z 1,1,1,1,1";
+        RainWalk x = new RainWalk();
+        for (int i = 0; i < 4; i++) {
+            Check.granted("the great world", x, Check.world(x, great), 2);
+            Check.due("its awning", x.road(0, 4), 5);
+            Check.due("its coat", x.walker(0, 0), 2);
+            for (int k = 0; k < 3; k++) {
+                Check.refused("a spoiled great world", x, Check.world(x, great + "!"), -1, 4);
+            }
+            Check.granted("the small world", x, Check.world(x, SMALL), 1);
+            int[] sizes = {5, 0, 1, 0, 1, 0};
+            for (int what = 0; what < sizes.length; what++) {
+                Check.due("size(" + what + ") of the small world", x.size(what), sizes[what]);
+            }
+            Check.due("the plain walker", x.walker(0, 0), 0);
+            Check.due("by how much", x.walker(0, 1), 0);
+            Check.granted("one with a road", x, Check.world(x, W + "place a;place b;road a west 2 b;" + WALKER), 1);
+            Check.due("no awning", x.road(0, 4), 0);
+            Check.due("one road", x.size(3), 1);
+        }
     }
 
     private static void tokens() {
@@ -184,6 +211,7 @@ public final class TextTest {
         Check.fault(W + "walker z plain broad 0", 4, 34);
         Check.fault(W + "walker z plain broad 10", 4, 34);
         Check.fault(W + "walker z plain broad 1 deep 0", 4, 41);
+        Check.fault(W + "walker z plain broad 1 deep 10", 4, 41);
         Check.fault(W + "walker z plain broad 1 deep 1 high 0", 4, 48);
         Check.fault(W + "walker z plain broad 1 deep 1 high 10", 4, 48);
         Check.fault(W + "walker z bent 8 broad 1 deep 1 high 8", 4, 49);

@@ -10,6 +10,7 @@ public final class WaysTest {
         ties();
         trees();
         longDay();
+        fullWorld();
         lateAndSoon();
         refusals();
         anotherWorld();
@@ -38,6 +39,8 @@ public final class WaysTest {
         way(x, 1, 2, 0, 8, 0, 1, 7, -2, -2, -2, -2, -2, 103);
         way(x, 2, 0, 5, 9, 0, 1, 9, 113, 13);
         way(x, 2, 2, 3, 3, 0, 1, 3);
+        way(x, 0, 0, 0, 0, 0, 1, 0);
+        Check.granted("off, by 0", x, x.off(0, 1, 1, 0), 0);
         way(x, 2, 2, 0, 400, 0, 1, 0);
         Check.granted("off, by 9", x, x.off(0, 0, 2, 9), 5);
         Check.granted("off, by 8", x, x.off(0, 0, 2, 8), 0);
@@ -84,6 +87,34 @@ public final class WaysTest {
         Check.granted("waiting all along", x, x.steps(0, 0, 0, 0, 400), 0);
         Check.granted("steps by 399", x, x.steps(0, 0, 1, 0, 399), 1);
         Check.due("least by 399", x.least(0, 0, 1, 0, 399, false), 80);
+    }
+
+    /** As many places, roads, speeds as there is room for, each speed with its own minutes. */
+    private static void fullWorld() {
+        StringBuilder text = new StringBuilder("world hour 60");
+        for (int i = 0; i < 6; i++) {
+            text.append(";rain drops 1 down 1 wind north 0 chance 100");
+        }
+        for (char place = 'a'; place <= 'h'; place++) {
+            text.append(";place ").append(place).append(" inn");
+        }
+        for (int i = 0; i < 11; i++) {
+            text.append(";road a east 60 b");
+        }
+        text.append(";road b east 60 h;walker p plain broad 1 deep 1 high 1 from 1 to 9");
+        RainWalk x = Check.of(text.toString());
+        Check.granted("there in the dry", x, x.there(0, 0, 7, 0, 400), 374);
+        Check.granted("steps", x, x.steps(0, 0, 7, 0, 400), 362);
+        Check.granted("the last wait", x, x.step(0, 0, 7, 0, 400, 359), -2);
+        Check.granted("the first leg", x, x.step(0, 0, 7, 0, 400, 360), 9);
+        Check.granted("the last leg", x, x.step(0, 0, 7, 0, 400, 361), 1109);
+        Check.fraction("least", x.least(0, 0, 7, 0, 400, false), x.least(0, 0, 7, 0, 400, true), 0, 1);
+        Check.fraction("least by 373", x.least(0, 0, 7, 0, 373, false), x.least(0, 0, 7, 0, 373, true), 200, 3);
+        Check.granted("there by 373", x, x.there(0, 0, 7, 0, 373), 367);
+        Check.granted("home from h", x, x.there(0, 7, 0, 393 - 8, 400), 399);
+        Check.refused("home too late", x, x.there(0, 7, 0, 387, 400), -1, 6);
+        Check.granted("home in time", x, x.there(0, 7, 0, 386, 400), 400);
+        Check.refused("to where no road leads", x, x.there(0, 0, 3, 0, 400), -1, 6);
     }
 
     /** Ways of one walker to one place are asked for from late to soon and from soon to late: the answers are the same. */
