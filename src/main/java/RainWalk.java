@@ -30,6 +30,8 @@ public final class RainWalk {
     /** Every speed divides it, so that what is got is kept as a whole number of such parts. */
     private static final int PARTS = 2520;
     private static final int PERCENT = 100;
+    /** Above all that can be got. */
+    private static final long ENDLESS = 1L << 62;
 
     private static final int LAST_TILL = 400;
     private static final int LAST_MINUTE = 999;
@@ -231,7 +233,7 @@ public final class RainWalk {
             return refuse(THERE_IS_NONE);
         }
         int driestHour = 0;
-        long least = Long.MAX_VALUE;
+        long least = ENDLESS;
         for (int hour = 0; hour < told.hours; hour++) {
             Rain rain = told.rain[hour];
             long likely = leg.leastWet(told.walker[walker], told.road[road], way, rain) * rain.chance;
@@ -1232,7 +1234,7 @@ public final class RainWalk {
 
         int bestSpeed(Walker who, Road road, int way, Rain rain) {
             int found = who.slowest;
-            long least = Long.MAX_VALUE;
+            long least = ENDLESS;
             for (int speed = who.slowest; speed <= who.fastest; speed++) {
                 long all = wetOf(who, road, way, rain, speed);
                 if (all < least) {
@@ -1316,7 +1318,7 @@ public final class RainWalk {
         private static final int MINUTES = LAST_TILL + 1;
         private static final int MOVE_ROOM = ROAD_ROOM * 2 * FASTEST + PLACE_ROOM;
         private static final int WAIT = -2;
-        private static final long CLOSED = Long.MAX_VALUE;
+        private static final long CLOSED = ENDLESS;
         /** Above every minute: a key is the mean times this and the minute of being there, so keys compare as ways do. */
         private static final int KEY_MINUTES = 512;
 
