@@ -15,6 +15,7 @@ public final class EdgeDayTest {
         draws();
         sixDraws();
         aDayBeginsAnew();
+        drawnAnew();
         dayRefusedStays();
         goRefusals();
         stayRefusals();
@@ -128,6 +129,21 @@ public final class EdgeDayTest {
         Check.refused("undo()", x, x.undo(), 6);
         Check.refused("back(0)", x, x.back(0), 1);
         Check.granted("the first MARK", x, x.mark(), 0);
+    }
+
+    /** Nothing of an earlier DAY's rain is left. */
+    private static void drawnAnew() {
+        RainWalk x = Check.of(Worlds.SMALL.replace("place a", "place a tree 1") + ";rain drops 1 down 1 wind north 0 chance 50"
+            + ";rain drops 1 down 1 wind north 0 chance 25");
+        // the draws: of 0: 74, 24; of 1: 49, 49; of 2: 24, 74; of 3: 99, 99
+        int[][] rows = {{0, 2}, {1, 1}, {2, 1}, {3, 0}, {0, 2}, {3, 0}, {1, 1}};
+        for (int[] row : rows) {
+            Check.granted("day of " + row[0], x, x.day(0, 0, 0, row[0]), row[1]);
+            x.stay(5);
+            Check.due("the first hour", x.got(0, false), 5 * (row[1] & 1));
+            x.stay(5);
+            Check.due("both hours", x.got(0, false), 5 * (row[1] & 1) + 5 * (row[1] >> 1));
+        }
     }
 
     private static void leavesAll(String call, int trouble, long none, ToLongFunction<RainWalk> refused) {
@@ -365,6 +381,15 @@ public final class EdgeDayTest {
         Check.fraction("top", y.got(0, false), y.got(0, true), 191, 504);
         Check.fraction("front", y.got(1, false), y.got(1, true), 3, 1);
         Check.fraction("wetness", y.wetness(false), y.wetness(true), 191 + 3 * 504, 504);
+        Check.world(y, "world hour 60;rain drops 1 down 1 wind north 0 chance 100;place a;place b;road a east 1 b;"
+            + "walker p coat 3 broad 1 deep 1 high 1 from 5 to 9");
+        y.day(0, 0, 0, 0);
+        y.go(0, 0, 5);
+        y.go(0, 1, 7);
+        y.go(0, 0, 8);
+        y.go(0, 1, 9);
+        Check.fraction("the greatest lower", y.got(0, false), y.got(0, true), 1459, 2520);
+        Check.fraction("wetness in a coat of 3", y.wetness(false), y.wetness(true), 1459 + 2520, 2520);
     }
 
     /** "less what a coat holds, 0 at least", "more was got than it holds": just below, at, above it. */

@@ -21,6 +21,7 @@ public final class EdgeLegsTest {
         withoutRoadsOrHours();
         most();
         smallest();
+        allFacesTogether();
         chances();
         minutesUpwards();
         winds();
@@ -31,6 +32,7 @@ public final class EdgeLegsTest {
         heldByOthers();
         bentByEight();
         bestAndWorstOfThoseAlike();
+        worstAtEitherEnd();
         oneSpeed();
         rounds();
         driestOfThoseAlike();
@@ -228,6 +230,23 @@ public final class EdgeLegsTest {
         Check.fraction("round", x.round(0, 0, 0, false), x.round(0, 0, 0, true), 20, 9);
     }
 
+    /** "WET of a LEG: all faces together", by a wind from each side. */
+    private static void allFacesTogether() {
+        RainWalk x = Check.of("world hour 5;rain drops 1 down 3 wind south 2 chance 50;rain drops 1 down 3 wind north 2 chance 50;"
+            + "rain drops 1 down 3 wind east 2 chance 50;rain drops 1 down 3 wind west 2 chance 50;place a;place b;road a east 1 b;"
+            + "walker p plain broad 2 deep 3 high 5 from 1 to 1");
+        long[][] due = {{18, 10, 0, 30, 0}, {18, 10, 0, 0, 30}, {18, 0, 10, 0, 0}, {18, 30, 0, 0, 0}};
+        for (int hour = 0; hour < 4; hour++) {
+            long all = 0;
+            for (int face = 0; face < 5; face++) {
+                face(x, face, due[hour][face], 1, 0, 0, 0, hour, 1);
+                all += due[hour][face];
+            }
+            wet(x, all, 1, 0, 0, 0, hour, 1);
+            mean(x, all / 2, 1, 0, 0, 0, hour, 1);
+        }
+    }
+
     private static void chances() {
         int[] chances = {0, 1, 50, 99, 100};
         long[][] means = {{0, 1}, {1, 10}, {5, 1}, {99, 10}, {10, 1}};
@@ -419,6 +438,25 @@ public final class EdgeLegsTest {
         Check.granted("best is the fastest", y, y.best(2, 0, 0, 0), 2);
         Check.granted("worst is the slowest", y, y.worst(2, 0, 0, 0), 1);
         Check.fraction("saves", y.saves(2, 0, 0, 0, false), y.saves(2, 0, 0, 0, true), 12, 1);
+    }
+
+    private static void worstAtEitherEnd() {
+        RainWalk x = Check.of("world hour 5;rain drops 1 down 1 wind east 4 chance 1;place a;place b;road a east 9 b;"
+            + "walker p plain broad 1 deep 1 high 1 from 3 to 9;walker q plain broad 1 deep 1 high 1 from 4 to 9;"
+            + "walker r plain broad 1 deep 1 high 1 from 3 to 8;walker s plain broad 1 deep 1 high 2 from 3 to 9");
+        // 3: 2/3, 4: 1/4, 8: 5/8, 9: 6/9 of nine
+        wet(x, 6, 1, 0, 0, 0, 0, 3);
+        wet(x, 6, 1, 0, 0, 0, 0, 9);
+        Check.granted("the slowest and the fastest are alike: the slowest", x, x.worst(0, 0, 0, 0), 3);
+        Check.granted("the fastest", x, x.worst(1, 0, 0, 0), 9);
+        Check.granted("the slowest", x, x.worst(2, 0, 0, 0), 3);
+        Check.granted("the fastest, by its front", x, x.worst(3, 0, 0, 0), 9);
+        for (int w = 0; w < 4; w++) {
+            Check.granted("best, just with the rain", x, x.best(w, 0, 0, 0), 4);
+            Check.granted("not even", x, x.even(w, 0, 0, 0), 0);
+        }
+        Check.fraction("saves", x.saves(0, 0, 0, 0, false), x.saves(0, 0, 0, 0, true), 15, 4);
+        Check.fraction("saves nothing", x.saves(1, 0, 0, 0, false), x.saves(1, 0, 0, 0, true), 0, 1);
     }
 
     private static void alike(RainWalk x, int w, int r, int hour, int slowest) {

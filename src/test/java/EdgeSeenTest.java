@@ -19,6 +19,7 @@ public final class EdgeSeenTest {
         ofThatWalker();
         chancesDoNotCount();
         fourWhoLie();
+        byRoadsAndWays();
         Check.end("EdgeSeenTest");
     }
 
@@ -192,5 +193,16 @@ public final class EdgeSeenTest {
             RainWalk x = Check.of(text + seen);
             Check.granted("lies()", x, x.lies(), bits);
         }
+    }
+
+    /** Three roads by unlike sides: the way counts on each of them. */
+    private static void byRoadsAndWays() {
+        RainWalk x = Check.of(Worlds.HEAD + "place a;place b;road a east 1 b;road a west 1 b;road a east 1 b;road a north 1 b;"
+            + "rain drops 1 down 1 wind east 1 chance 0;rain drops 1 down 1 wind west 1 chance 0;" + PLAIN
+            + "seen p 1,0,0,0,0;seen p 1,2,0,0,0;seen p 1,1,0,1,0;seen p 1,1,0,0,1");
+        codes(x, 0, 1, 111, 1011, 1101, 2001, 2111);
+        codes(x, 1, 11, 101, 1001, 1111, 2011, 2101);
+        codes(x, 2, 3001, 3111);
+        codes(x, 3, 3011, 3101);
     }
 }

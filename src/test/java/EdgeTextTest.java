@@ -26,7 +26,9 @@ public final class EdgeTextTest {
         everyWhole();
         wholesByOthers();
         roomsFull();
+        roomsAreEmptyForEachText();
         oneMoreThanThereIsRoomFor();
+        linesThatAreCutOff();
         namesThatAreKept();
         namesAheadOfTheirUse();
         worldAheadOfAll();
@@ -379,6 +381,64 @@ public final class EdgeTextTest {
         int[] least = {5, 0, 1, 0, 1, 0};
         for (int what = 0; what < least.length; what++) {
             Check.due("size(" + what + ") of the least", y.size(what), least[what]);
+        }
+    }
+
+    /** The rooms that one text filled, or a FAULT left half full, are empty for the next; nothing of a line is left in a later one. */
+    private static void roomsAreEmptyForEachText() {
+        RainWalk x = new RainWalk();
+        String plain = HEAD + "place a;place b;road a west 2 b;" + WALKER;
+        for (int i = 0; i < 3; i++) {
+            Check.granted("all rooms full, time " + i, x, Check.world(x, Worlds.FULL), 4);
+            Check.refused("and a FAULT behind them", x, Check.world(x, Worlds.FULL + "!"), -1, 4);
+            Check.due("at its end", x.where(), Worlds.FULL.length());
+            Check.granted("little is told", x, Check.world(x, plain), 1);
+            int[] due = {5, 0, 2, 1, 1, 0};
+            for (int what = 0; what < due.length; what++) {
+                Check.due("size(" + what + ")", x.size(what), due[what]);
+            }
+            Check.due("no awning is left", x.road(0, 4), 0);
+            Check.refused("no place, though the text ahead told one", x, Check.world(x, HEAD + WALKER), -1, 4);
+            Check.due("fault()", x.fault(), 6);
+            Check.refused("no walker, though the text ahead told one", x, Check.world(x, HEAD + "place a"), -1, 4);
+            Check.due("fault()", x.fault(), 6);
+            Check.refused("a NAME of the text ahead", x, Check.world(x, HEAD + "place c;road a"), -1, 4);
+            Check.due("fault()", x.fault(), 2);
+        }
+        Check.world(x, HEAD + "place a inn;walker k coat 7 broad 1 deep 1 high 1 from 1 to 1");
+        Check.world(x, SMALL);
+        Check.world(x, SMALL);
+        Check.due("KIND of the plain one", x.walker(0, 0), 0);
+        Check.due("by how much", x.walker(0, 1), 0);
+        x.day(0, 0, 0, 0);
+        Check.refused("no inn is left", x, x.stay(1), 5);
+    }
+
+    /** Behind each TOKEN but the last the text ends, or the next LINE comes: FORM at that place. */
+    private static void linesThatAreCutOff() {
+        String[] lines = {"world hour 5", "rain drops 1 down 1 wind east 1 chance 1", "place y", "place y tree 1", "road a east 1 b",
+            "road a east 1 b awning 1", "walker y plain broad 1 deep 1 high 1 from 1 to 1", "walker y bent 1 broad 1 deep 1 high 2 from 1 to 1",
+            "walker y coat 1 broad 1 deep 1 high 1 from 1 to 1", "walker y shield 1 broad 1 deep 1 high 1 from 1 to 1",
+            "seen z 1 , 1 , 1 , 1 , 1"};
+        for (String line : lines) {
+            String ahead = line.startsWith("world") ? "" : HEAD + "place a;place b;" + WALKER + ";";
+            String[] tokens = line.split(" ");
+            String cut = ahead;
+            for (int i = 0; i + 1 < tokens.length; i++) {
+                cut += (i > 0 ? " " : "") + tokens[i];
+                boolean whole = tokens[0].equals("place") && i == 1 || tokens[0].equals("road") && i == 4;
+                if (whole) {
+                    Check.sound(cut, 1);
+                    Check.sound(cut + ";place x", 1);
+                } else {
+                    Check.fault(cut, 1, cut.length());
+                    Check.fault(cut + "  ", 1, cut.length() + 2);
+                    Check.fault(cut + ";place x", 1, cut.length());
+                    Check.fault(cut + " ;place x", 1, cut.length() + 1);
+                    Check.fault(cut + " world", 1, cut.length() + 1);
+                    Check.fault(cut + "?", 1, cut.length());
+                }
+            }
         }
     }
 

@@ -31,6 +31,10 @@ public final class EdgeWaysTest {
         offFirst();
         offEnds();
         refusedAndAskedAgain();
+        anotherWorld();
+        laterSteps();
+        allRoomsFull();
+        greatestLower();
         Check.end("EdgeWaysTest");
     }
 
@@ -394,5 +398,62 @@ public final class EdgeWaysTest {
             Check.granted("another till", x, x.there(0, 0, 1, 3, 10), 9);
             Check.granted("the other way", x, x.step(0, 1, 0, 3, 9, 0), 11);
         }
+    }
+
+    private static void anotherWorld() {
+        String text = "world hour 5;place a inn;place b;road a east 6 b;" + STEADY;
+        RainWalk x = Check.of(text);
+        way(x, 0, 1, 0, 9, 0, 1, 6, 1);
+        Check.granted("a WORLD with another road", x, Check.world(x, text.replace("east 6", "east 7")), 1);
+        way(x, 0, 1, 0, 9, 0, 1, 7, 1);
+        Check.granted("a WORLD without one", x, Check.world(x, "world hour 5;place a inn;place b;" + STEADY), 1);
+        none("no way", x, 6, 0, 0, 1, 0, 9);
+        Check.granted("a WORLD with a shorter road, gone back", x, Check.world(x, "world hour 5;place a;place b;road b east 1 a;" + STEADY), 1);
+        way(x, 0, 1, 0, 9, 0, 1, 1, 11);
+    }
+
+    /** A leg by a later road, back, at a higher speed; then waiting up to the end of the hour. */
+    private static void laterSteps() {
+        RainWalk x = Check.of("world hour 10;rain drops 1 down 1 wind west 3 chance 100;place a;place b inn;place c;road a east 60 c;"
+            + "road c east 60 b;road b east 7 a;road c west 4 b;walker p plain broad 1 deep 1 high 1 from 1 to 3");
+        // 7 long with the wind at 3: 3 minutes, 7/3 wet; then 7 minutes in the inn, then 4 long in the dry
+        way(x, 0, 2, 0, 99, 7, 3, 12, 213, -2, -2, -2, -2, -2, -2, -2, 312);
+        way(x, 0, 2, 5, 99, 7, 3, 12, 213, -2, -2, 312);
+        way(x, 0, 2, 9, 99, 7, 3, 14, 213, 312);
+    }
+
+    /** Eight places, twelve roads, nine speeds each of which takes other minutes. */
+    private static void allRoomsFull() {
+        StringBuilder text = new StringBuilder("world hour 60" + ";rain drops 1 down 1 wind north 0 chance 100".repeat(6));
+        for (char place = 'a'; place <= 'h'; place++) {
+            text.append(";place ").append(place).append(" inn");
+        }
+        String roads = ";road a east 60 g".repeat(11) + ";road g east 60 h";
+        RainWalk x = Check.of(text + roads + ";walker p plain broad 1 deep 1 high 1 from 1 to 9");
+        Check.granted("by 374", x, x.there(0, 0, 7, 0, 374), 374);
+        Check.granted("steps by 374", x, x.steps(0, 0, 7, 0, 374), 362);
+        Check.granted("the last", x, x.step(0, 0, 7, 0, 374, 361), 1109);
+        Check.granted("the last but one", x, x.step(0, 0, 7, 0, 374, 360), 9);
+        Check.fraction("by 374", x.least(0, 0, 7, 0, 374, false), x.least(0, 0, 7, 0, 374, true), 0, 1);
+        // the leg is wet at 9: 60 by 9 and 60
+        Check.fraction("by 373", x.least(0, 0, 7, 0, 373, false), x.least(0, 0, 7, 0, 373, true), 200, 3);
+        Check.fraction("by 14", x.least(0, 0, 7, 0, 14, false), x.least(0, 0, 7, 0, 14, true), 400, 3);
+        none("by 13", x, 6, 0, 0, 7, 0, 13);
+        Check.granted("from the last place but one", x, x.there(0, 6, 7, 0, 374), 367);
+        Check.granted("waiting there", x, x.steps(0, 6, 7, 0, 374), 361);
+        Check.granted("off, home", x, x.off(0, 7, 0, 400), 0);
+        Check.granted("home by the last minute", x, x.there(0, 7, 0, 386, 400), 400);
+        none("home a minute late", x, 6, 0, 7, 0, 387, 400);
+    }
+
+    /** Just with the rain at 5, 7, 8, 9, an hour each, a chance of 1: a fifth, a seventh, an eighth, a ninth of a hundredth. */
+    private static void greatestLower() {
+        RainWalk x = Check.of("world hour 5;rain drops 1 down 1 wind east 5 chance 1;rain drops 1 down 1 wind east 7 chance 1;"
+            + "rain drops 1 down 1 wind east 8 chance 1;rain drops 1 down 1 wind east 9 chance 1;place a;place b;place c;place d;place e;"
+            + "road a east 25 b awning 24;road b east 35 c awning 34;road c east 40 d awning 39;road d east 45 e awning 44;"
+            + "walker p plain broad 1 deep 1 high 9 from 1 to 9");
+        way(x, 0, 4, 0, 20, 1459, 252000, 20, 5, 107, 208, 309);
+        way(x, 0, 4, 0, 400, 1459, 252000, 20, 5, 107, 208, 309);
+        way(x, 0, 3, 0, 15, 131, 28000, 15, 5, 107, 208);
     }
 }

@@ -1,4 +1,7 @@
-/** All that can be asked of an object, but for THE TAPE and what the latest call left: so that what must stay is seen to stay. */
+/**
+ * All that can be asked of an object, but for THE TAPE and what the latest call left: so that what must stay is seen to stay.
+ * It asks little enough that an object's 512 calls are not used up.
+ */
 final class State {
     private State() {
     }
@@ -31,7 +34,7 @@ final class State {
             all.append(x.size(what)).append(' ');
         }
         for (int face = 0; face < 5; face++) {
-            all.append(x.got(face, false)).append('/').append(x.got(face, true)).append(' ');
+            all.append(x.got(face, false)).append(' ');
         }
         return all.append(x.wetness(false)).append(' ').append(x.soaked()).toString();
     }
@@ -46,8 +49,9 @@ final class State {
     /** The twin did not do the call. Both are undone, sent back to their marks, and wait, so that what is kept is seen, too. */
     static void stayed(String call, RainWalk x, RainWalk twin) {
         equal(call, of(x), of(twin));
-        for (int i = 0; i < 17; i++) {
-            Check.due("undo " + i + " after " + call, x.undo(), twin.undo());
+        for (boolean undone = true; undone;) {
+            undone = twin.undo();
+            Check.due("undo after " + call, x.undo(), undone);
             equal(call, now(x), now(twin));
         }
         for (int mark = 0; mark < 4; mark++) {
